@@ -288,8 +288,7 @@ public final class RunBitmaps {
             if (bits == ALL_ROWS) {
                 return skipped;
             }
-            // An empty fill can be asked for more rows than a group has.
-            int rest = bits == NO_ROWS ? 0 : bits & ~firstBits(skipped);
+            int rest = bits & ~firstBits(skipped);
             return rest == 0 ? -1 : Integer.numberOfTrailingZeros(rest);
         }
 

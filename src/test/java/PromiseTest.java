@@ -432,6 +432,13 @@ public final class PromiseTest {
         due("8 last", x.after(38), 39);
         due("8 behind the last", x.after(39), -1);
         due("8 in the empty fill", x.after(100), -1);
+        RunBitmaps late = new RunBitmaps();
+        late.append(0, 0, 62);
+        late.append(1, 0, 62);
+        late.push(0, 1);
+        due("8 full fill behind an empty one", late.after(LEAST), 62);
+        due("8 from within the empty one", late.after(40), 62);
+        due("8 from within the full one", late.after(100), 101);
         x.push(0, 3);
         due("8 empty set", x.after(LEAST), -1);
         RunBitmaps most = new RunBitmaps();
@@ -439,6 +446,7 @@ public final class PromiseTest {
         most.append(1, 0, 1);
         most.push(0, 1);
         due("8 most", most.after(-1), 999999);
+        due("8 from far below", most.after(LEAST), 999999);
         due("8 just below", most.after(999998), 999999);
         due("8 at it", most.after(999999), -1);
         due("8 above it", most.after(1000000), -1);
