@@ -154,22 +154,19 @@ public final class LookEdgeTest {
         Run x = run("8 the least row above a number, far off");
         x.append(0, 0, 5, 5);
         x.append(1, 0, 40, 45);
-        int[] below = {LEAST, LEAST + 1, -1000000, -32, -31, -2, -1};
-        int[] above = {45, 61, 62, 999999, 1000000, 1000001, MOST - 31, MOST - 1, MOST};
-        x.push(0, 0, 1);
-        x.push(0, 1, 2);
-        for (int row : below) {
-            x.after(row, 5);
-        }
-        for (int row : above) {
-            x.after(row, -1);
-        }
-        x.pop(1);
-        for (int row : below) {
-            x.after(row, 0);
-        }
-        for (int row : above) {
-            x.after(row, -1);
+        x.append(2, 0, 48, 93);
+        x.append(3, 0, 31, 124);
+        int[] below = {LEAST, LEAST + 1, LEAST + 31, -1000000, -32, -31, -2, -1};
+        int[] above = {123, 124, 155, 999999, 1000000, 1000001, MOST - 31, MOST - 1, MOST};
+        int[] first = {0, 5, 45, 93};
+        for (int value = 0; value < first.length; value++) {
+            x.push(0, value, value + 1);
+            for (int row : below) {
+                x.after(row, first[value]);
+            }
+            for (int row : above) {
+                x.after(row, -1);
+            }
         }
     }
 

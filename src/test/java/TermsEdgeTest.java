@@ -201,8 +201,6 @@ public final class TermsEdgeTest {
             x.top(ALL ^ 1 << other);
             x.push(1, 0, 2);
             x.top(-3);
-            x.push(0, 1, 3);
-            x.pop(2);
             x.pop(1);
             x.push(0, 1, 2);
             x.join(1, 1);
