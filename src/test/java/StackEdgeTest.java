@@ -256,7 +256,8 @@ public final class StackEdgeTest {
     /** Sets of all and of no rows: where each way of joining has its least and its most. */
     private void joinAtTheLeastAndTheMost() {
         boolean[][] all = {
-            {false, false, false, true}, {false, true, true, true}, {false, false, true, false}, {false, true, true, false},
+            {false, false, false, true}, {false, true, true, true},
+            {false, false, true, false}, {false, true, true, false},
         };
         for (int op = 0; op < 4; op++) {
             for (int which = 0; which < 4; which++) {
